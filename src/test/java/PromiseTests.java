@@ -1116,6 +1116,76 @@ public final class PromiseTests {
         due("said at two stiles, it is two", told("sp001;sp001;w630;c000;c010;c010;").count(5), 2);
     }
 
+    /** What was said six days ago pleases tomorrow: every answer is one of today. */
+    private static void todayAndNotTomorrow() {
+        part = "today";
+        StileWantsCompliment x = told("sa501;w010;c000;w010;d06;");
+        x.stands(1, 1);
+        due("stile(0, 4)", x.stile(0, 4), 30);
+        due("stile(0, 5)", x.stile(0, 5), 0);
+        due("walker(0, 2)", x.walker(0, 2), 0);
+        due("walker(0, 3)", x.walker(0, 3), 2);
+        due("pleasesThen(0, 1)", x.pleasesThen(0, 1), 31);
+        due("openThen(0, 1)", x.openThen(0, 1), 1);
+        due("way(0, 0, 0)", x.way(0, 0, 0), -9);
+        due("way(0, 0, 1)", x.way(0, 0, 1), -9);
+        due("shy()", x.shy(), 3);
+        due("when(0, 0)", x.when(0, 0), 1);
+        due("store(0, 0)", x.store(0, 0), 2);
+        due("learn(0)", x.learn(0), 1);
+        due("gate(0)", x.gate(0), 0);
+        due("needed(0, 0)", x.needed(0, 0), -9);
+        due("say(0, 0)", x.say(0, 0), -9);
+        due("spent(0)", x.spent(0), 33);
+        due("tour(0, 0)", x.tour(0, 0), 0);
+        due("two(0, 1, 0)", x.two(0, 1, 0), 0);
+        due("hoarse(0, 0, 2, 0)", x.hoarse(0, 0, 2, 0), 0);
+        x.row(30);
+        due("whatIs(0, 0)", x.whatIs(0, 0), 17);
+        x.clear();
+        x.row(0);
+        due("judge()", x.judge(), -9);
+        x.stands(1, 0);
+        due("meet(0)", x.meet(0), -9);
+        due("says(0, 0, 0)", x.says(0, 0, 0), 0);
+        StileWantsCompliment behind = told("sa501;sg501;w030;c011;d06;");
+        due("open just behind it, not a day on", behind.say(0, 0), 1);
+    }
+
+    /** A county of the mind, left behind by lots, is not the one that is asked. */
+    private static void whatWasInMindIsGone() {
+        part = "in mind";
+        StileWantsCompliment x = told("sa501;sy012;w310;w310;w030;");
+        String before = answers(x);
+        for (int z = 0; z < 5; z++) {
+            x.lots(1, z, 0);
+            due("the same answers behind lots with " + z, before.equals(answers(x)) ? 1 : 0, 1);
+        }
+        x.tour(1, 0);
+        due("the same answers behind tour", before.equals(answers(x)) ? 1 : 0, 1);
+        x.county();
+        tell(x, "w012;c010;w638;");
+        due("the same answers behind a fault", before.equals(answers(x)) ? 1 : 0, 1);
+    }
+
+    private static String answers(StileWantsCompliment x) {
+        StringBuilder all = new StringBuilder();
+        for (int i = 0; i <= 5; i++) {
+            all.append(x.stile(0, i)).append(' ').append(x.stile(1, i)).append(' ').append(x.count(i)).append(' ');
+            all.append(x.last(0, i)).append(' ').append(x.pleasesThen(1, i)).append(' ');
+        }
+        for (int w = 0; w < 3; w++) {
+            for (int i = 0; i < 4; i++) {
+                all.append(x.walker(w, i)).append(' ').append(x.way(w, i, 0)).append(' ');
+                all.append(x.when(w, i)).append(' ').append(x.store(w, i)).append(' ');
+                all.append(x.needed(w, i)).append(' ').append(x.hoarse(w, i, 3, 0)).append(' ');
+            }
+            all.append(x.learn(w)).append(' ').append(x.gate(w)).append(' ').append(x.openThen(w, 2)).append(' ');
+        }
+        all.append(x.shy()).append(' ').append(x.spent(0)).append(' ').append(x.compared(0)).append(' ');
+        return all.append(x.meet(0)).append(' ').append(x.mean(0)).append(' ').append(x.mean(1)).toString();
+    }
+
     public static void main(String[] args) {
         promise1NewObject();
         promise2Letter();
@@ -1156,6 +1226,8 @@ public final class PromiseTests {
         promise34Lots();
         promise35And36ImageAndOn();
         promise37Count();
+        todayAndNotTomorrow();
+        whatWasInMindIsGone();
         System.out.println(wrong == 0 ? "all promises hold" : wrong + " answers are not as due");
         if (wrong != 0) {
             System.exit(1);
