@@ -1155,17 +1155,19 @@ public final class PromiseTests {
     /** A county of the mind, left behind by lots, is not the one that is asked. */
     private static void whatWasInMindIsGone() {
         part = "in mind";
-        StileWantsCompliment x = told("sa501;sy012;w310;w310;w030;");
-        String before = answers(x);
+        String text = "sa501;sy012;w310;w310;w030;";
+        String before = answers(told(text));
         for (int z = 0; z < 5; z++) {
+            StileWantsCompliment x = told(text);
             x.lots(1, z, 0);
             due("the same answers behind lots with " + z, before.equals(answers(x)) ? 1 : 0, 1);
         }
-        x.tour(1, 0);
-        due("the same answers behind tour", before.equals(answers(x)) ? 1 : 0, 1);
-        x.county();
-        tell(x, "w012;c010;w638;");
-        due("the same answers behind a fault", before.equals(answers(x)) ? 1 : 0, 1);
+        StileWantsCompliment toured = told(text);
+        toured.tour(1, 0);
+        due("the same answers behind tour", before.equals(answers(toured)) ? 1 : 0, 1);
+        StileWantsCompliment faulty = told(text);
+        due("a fault", tell(faulty, "w012;c000;d09;w638;"), -2014);
+        due("the same answers behind a fault", before.equals(answers(faulty)) ? 1 : 0, 1);
     }
 
     private static String answers(StileWantsCompliment x) {
