@@ -1312,7 +1312,7 @@ public final class StileWantsCompliment {
             }
         }
 
-        private static boolean fits(char wanted, int letter) {
+        private static boolean fits(int wanted, int letter) {
             switch (wanted) {
                 case A_KIND:
                     return Kind.numberOf(letter) != NONE;
