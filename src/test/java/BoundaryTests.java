@@ -121,6 +121,52 @@ public final class BoundaryTests {
         refused(name, x -> number + call.on(x) - (LONG - number), number);
     }
 
+    // ---- nothing at all
+
+    private static void aNewObjectHasNobody() {
+        words("No STILES, nobody, DAY 0.");
+        StileWantsCompliment x = new StileWantsCompliment();
+        long[] nobody = {x.stile(0, 0), x.walker(0, 0), x.last(0, 0), x.says(0, 0, 0), x.learns(0, 0), x.forgets(0),
+            x.stands(0, 0), x.turn(0, 0, 0), x.pleasesThen(0, 0), x.openThen(0, 0), x.way(0, 0, 0), x.when(0, 0),
+            x.store(0, 0), x.learn(0), x.gate(0), x.needed(0, 0), x.say(0, 0), x.tour(0, 0), x.two(0, 1, 0),
+            x.whatIs(0, 0), LONG - x.hoarse(0, 0, 2, 0)};
+        for (int i = 0; i < nobody.length; i++) {
+            due("call " + i + " of nobody", nobody[i], -1);
+        }
+        refusalsOf(x, -1, nobody.length);
+        for (int what = 0; what <= 7; what++) {
+            due("count(" + what + ")", x.count(what), 0);
+        }
+    }
+
+    private static void aNewObjectIsEmpty() {
+        words("No STILES, nobody, DAY 0.");
+        StileWantsCompliment x = new StileWantsCompliment();
+        due("shy()", x.shy(), 0);
+        due("spent(0)", x.spent(0), 63);
+        due("spent(1)", x.spent(1), 0);
+        due("spent(2)", x.spent(2), -9);
+        due("compared(0)", x.compared(0), 0);
+        due("compared(1)", x.compared(1), -9);
+        due("meet(0)", x.meet(0), 0);
+        due("meet(1)", x.meet(1), 0);
+        due("mean(0)", x.mean(0), 0);
+        due("mean(1)", x.mean(1), 1);
+        due("judge()", x.judge(), -9);
+        due("clear()", x.clear(), 0);
+        due("county()", x.county(), -1000);
+        refusalsOf(x, 0, 0);
+        due("on()", x.on(), -3);
+        due("lots(1, 0, 0)", x.lots(1, 0, 0), -3);
+        refusalsOf(x, -3, 2);
+        due("image()", x.image(), 0);
+        due("on()", x.on(), 0);
+        due("days(1)", x.days(1), 1);
+        due("row(0)", x.row(0), 1);
+        due("clear()", x.clear(), 1);
+        due("letter(0)", x.letter(0), 1);
+    }
+
     // ---- I. the numbers of things
 
     private static void fieldsZeroToSeven() {
@@ -1655,6 +1701,8 @@ public final class BoundaryTests {
     }
 
     private static void numbersOfThings() {
+        aNewObjectHasNobody();
+        aNewObjectIsEmpty();
         fieldsZeroToSeven();
         complimentsZeroToFive();
         stilesNineAtMost();
