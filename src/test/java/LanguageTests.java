@@ -141,12 +141,25 @@ public final class LanguageTests {
         }
     }
 
+    /** All calls of a run live in one room: what there is to make is made with the object. */
+    private static void onlyConstructorsMake(List<String> lines) {
+        String head = "";
+        for (String line : lines) {
+            if (line.matches("^( {4}| {8})[\\w\\[\\] ]+\\([^;]*\\) \\{$")) {
+                head = line.trim();
+            }
+            boolean makes = Pattern.compile("\\bnew\\b").matcher(line).find();
+            must(!makes || head.matches("(public )?[A-Z]\\w*\\(.*"), "rule 12, made in a call: " + head);
+        }
+    }
+
     public static void main(String[] args) throws IOException {
         String source = Files.readString(SOURCE, StandardCharsets.UTF_8);
         face();
         classesInside(StileWantsCompliment.class);
         words(withoutComments(source));
         lengths(List.of(source.split("\n")));
+        onlyConstructorsMake(List.of(withoutComments(source).split("\n")));
         System.out.println(wrong == 0 ? "the language is kept to" : wrong + " places are not as the rules want");
         if (wrong != 0) {
             System.exit(1);
